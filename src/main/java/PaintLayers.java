@@ -555,17 +555,17 @@ public final class PaintLayers {
         boolean isMasked = false;
         Box clip = null;
 
-        // What it has together with the groups above it.
-        int x = 0;
-        int y = 0;
-        int fill = MOST_VALUE;
-        int strength = FULL;
-        int hiding = 0;
+        // What it has together with the groups above it: inherit() sets this before anything asks for it.
+        int x;
+        int y;
+        int fill;
+        int strength;
+        int hiding;
 
-        // In the row that was scanned last: the pixels in it, those let through to it, those that show it.
-        long covered = 0;
-        long open = 0;
-        long shown = 0;
+        // In the row that was scanned last: the pixels in it, those let through below it, those that show it.
+        long covered;
+        long open;
+        long shown;
 
         Node(int number, Shape shape, Node parent) {
             this.number = number;

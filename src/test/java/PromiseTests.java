@@ -155,17 +155,23 @@ public final class PromiseTests {
         due("3: a corner", 5, () -> p.addRectangle(0, 63, 47, 100, 100));
         due("3: the corner's pixel", "1 63 63 47 47", () -> extents(p, 5));
         due("3: children", "1 2 3 4 5", () -> children(p, 0));
+        due("3: ends where the picture begins", 6, () -> p.addRectangle(0, -5, 0, 5, 48));
+        due("3: none of its pixels", "0 -1 -1 -1 -1", () -> extents(p, 6));
+        due("3: begins where the picture ends", 7, () -> p.addRectangle(0, 0, 48, 64, 1));
+        due("3: none of its pixels", "0 -1 -1 -1 -1", () -> extents(p, 7));
+        due("3: one column more", 8, () -> p.addRectangle(0, -5, 0, 6, 48));
+        due("3: its first column", "48 0 0 0 47", () -> extents(p, 8));
         int[][] bad = {{-101, 0, 1, 1}, {101, 0, 1, 1}, {0, -101, 1, 1}, {0, 101, 1, 1}, {0, 0, 0, 1},
             {0, 0, 101, 1}, {0, 0, 1, 0}, {0, 0, 1, 101}, {LOW, HIGH, 1, 1}, {0, 0, HIGH, LOW}};
         for (int[] b : bad) {
             refused(p, "3: " + b[0] + " " + b[1] + " " + b[2] + " " + b[3], ARGUMENT,
                     () -> p.addRectangle(0, b[0], b[1], b[2], b[3]));
             refused(p, "3: a bad one on a shape", ARGUMENT, () -> p.addRectangle(1, b[0], b[1], b[2], b[3]));
-            refused(p, "3: a bad one on nothing", INDEX, () -> p.addRectangle(6, b[0], b[1], b[2], b[3]));
+            refused(p, "3: a bad one on nothing", INDEX, () -> p.addRectangle(9, b[0], b[1], b[2], b[3]));
         }
         refused(p, "3: parent -1", INDEX, () -> p.addRectangle(-1, 0, 0, 1, 1));
         refused(p, "3: parent a shape", STATE, () -> p.addRectangle(1, 0, 0, 1, 1));
-        due("3: refused ones take no number", 6, () -> p.addRectangle(0, 0, 0, 1, 1));
+        due("3: refused ones take no number", 9, () -> p.addRectangle(0, 0, 0, 1, 1));
         fillUp(p);
         refused(p, "3: 40 came", STATE, () -> p.addRectangle(0, 0, 0, 1, 1));
         refused(p, "3: 40 came, a bad one", ARGUMENT, () -> p.addRectangle(0, 0, 0, 0, 1));
@@ -183,7 +189,7 @@ public final class PromiseTests {
         p.addDisc(0, 32, 24, 60);
         due("4: greatest radius", "3072 0 63 0 47", () -> extents(p, 3));
         p.addDisc(0, 32, 24, 5);
-        due("4: radius 5, a middle on the edge counts", "80 27 36 19 28", () -> extents(p, 4));
+        due("4: radius 5", "80 27 36 19 28", () -> extents(p, 4));
         p.addDisc(0, -100, 100, 60);
         due("4: out of the picture", "0 -1 -1 -1 -1", () -> extents(p, 5));
         due("4: children", "1 2 3 4 5", () -> children(p, 0));
@@ -211,6 +217,18 @@ public final class PromiseTests {
         due("5: beyond it", false, () -> p.shows(1, 3, 1));
         p.addTriangle(0, 0, 4, 4, 0, 0, 0);
         due("5: turned the other way", "10 0 3 0 3", () -> extents(p, 2));
+        int[][] corners = {{0, 0}, {4, 0}, {0, 4}};
+        for (int first = 0; first < 3; first++) {
+            for (int step = 1; step <= 2; step++) {
+                int[] a = corners[first];
+                int[] b = corners[(first + step) % 3];
+                int[] c = corners[(first + step + step) % 3];
+                PaintLayers other = new PaintLayers();
+                other.addTriangle(0, a[0], a[1], b[0], b[1], c[0], c[1]);
+                due("5: the long side anywhere", "10 0 3 0 3", () -> extents(other, 1));
+                due("5: a middle on it", true, () -> other.shows(1, 1, 2));
+            }
+        }
         p.addTriangle(0, 0, 0, 10, 10, 20, 20);
         due("5: a flat one, with middles on its line", "0 -1 -1 -1 -1", () -> extents(p, 3));
         p.addTriangle(0, 5, 5, 5, 5, 20, 9);
@@ -394,12 +412,32 @@ public final class PromiseTests {
         refused(p, "11: node 3", INDEX, () -> p.place(3, 101, 0));
         refused(p, "11: node -1", INDEX, () -> p.place(-1, 0, 0));
         due("11: still", 100, () -> p.node(1, 4));
+        deepTree();
         p.addDisc(0, 0, 0, 3);
         p.place(3, 20, 30);
         due("11: a disc", "32 18 23 29 34", () -> extents(p, 3));
         p.addTriangle(0, 0, 0, 4, 0, 0, 4);
         p.place(4, 59, 43);
         due("11: a triangle, its tip below the picture", "9 60 63 45 47", () -> extents(p, 4));
+    }
+
+    /** A group in a group, 38 deep, and a shape at the end. */
+    private static void deepTree() {
+        PaintLayers p = new PaintLayers();
+        for (int group = 1; group < 39; group++) {
+            p.addGroup(group - 1);
+            p.place(group, group % 2 == 0 ? 100 : -99, 1);
+        }
+        p.addRectangle(38, 0, 0, 4, 4);
+        due("11: all offsets above it together", "16 19 22 38 41", () -> extents(p, 39));
+        p.place(0, 3, -38);
+        due("11: the root's too", "16 22 25 0 3", () -> extents(p, 39));
+        p.place(38, -100, 1);
+        due("11: far to the left", 0, () -> p.extent(0, 0));
+        for (int group = 0; group < 39; group++) {
+            p.place(group, 100, 100);
+        }
+        due("11: as far as it goes", 0, () -> p.extent(0, 0));
     }
 
     private static void setFill() {
@@ -665,6 +703,12 @@ public final class PromiseTests {
         due("22: all", 48, () -> p.paint());
         p.remove(1);
         due("22: the same values", 0, () -> p.paint());
+        p.addRectangle(0, 0, 0, 1, 1);
+        p.setFill(4, 1);
+        due("22: the first pixel alone", 1, () -> p.paint());
+        p.place(4, 63, 47);
+        due("22: the first and the last", 2, () -> p.paint());
+        due("22: the last", 1, () -> p.painted(63, 47));
     }
 
     private static void painted() {
