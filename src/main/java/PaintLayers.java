@@ -23,6 +23,8 @@ public final class PaintLayers {
     private static final int DISC = 2;
     private static final int TRIANGLE = 3;
 
+    private static final long WHOLE_ROW = -1L;
+
     private static final int LAST_DETAIL = 12;
     private static final int LAST_EXTENT = 4;
     private static final long DIGEST_START = 359;
@@ -266,14 +268,15 @@ public final class PaintLayers {
     }
 
     public int paint() {
-        int tiles = Long.bitCount(changedTiles());
+        long tiles = 0;
         for (int y = 0; y < HEIGHT; y++) {
-            mixRow(y);
+            tiles |= changedTiles(y);
+            // The pixels of the other tiles have the values that they had: the whole row can be taken over.
             for (int x = 0; x < WIDTH; x++) {
                 canvas[y * WIDTH + x] = row[x];
             }
         }
-        return tiles;
+        return Long.bitCount(tiles);
     }
 
     public int painted(int x, int y) throws IndexOutOfBoundsException {
@@ -305,7 +308,11 @@ public final class PaintLayers {
         for (int i = 0; i < PIXELS; i++) {
             d = d * DIGEST_FACTOR + canvas[i];
         }
-        return d * DIGEST_FACTOR + Long.bitCount(changedTiles());
+        long tiles = 0;
+        for (int y = 0; y < HEIGHT; y++) {
+            tiles |= changedTiles(y);
+        }
+        return d * DIGEST_FACTOR + Long.bitCount(tiles);
     }
 
     // ---- what is refused
@@ -452,6 +459,7 @@ public final class PaintLayers {
         for (int i = 0; i < order.size(); i++) {
             Node at = order.get(i);
             at.covered = at.shape == null ? 0 : at.shape.rowBits(y, at.x, at.y);
+            at.open = at.clip == null ? WHOLE_ROW : at.clip.rowBits(y, at.x, at.y);
         }
         // A group lies before all below it: backwards, each is whole before its parent takes it in.
         for (int i = order.size() - 1; i >= 0; i--) {
@@ -460,7 +468,7 @@ public final class PaintLayers {
                 at.parent.covered |= at.covered;
             }
         }
-        openRow(y);
+        handDownOpen();
         for (int i = order.size() - 1; i >= 0; i--) {
             Node at = order.get(i);
             if (at.parent != null) {
@@ -470,10 +478,15 @@ public final class PaintLayers {
     }
 
     /** Goes from the root down, so that each node finds what its parent lets through. */
-    private void openRow(int y) {
+    private void handDownOpen() {
         for (int i = 0; i < order.size(); i++) {
             Node at = order.get(i);
-            at.open = openBits(at, y);
+            if (at.isHidden || maskOf(at.parent) == at) {
+                at.open = 0;
+            }
+            if (at.parent != null) {
+                at.open &= at.parent.open;
+            }
             at.shown = at.shape == null ? 0 : at.open & at.covered;
             Node mask = maskOf(at);
             if (mask != null) {
@@ -482,22 +495,13 @@ public final class PaintLayers {
         }
     }
 
-    private static long openBits(Node node, int y) {
-        if (node.isHidden || maskOf(node.parent) == node) {
-            return 0;
-        }
-        long open = node.parent == null ? -1L : node.parent.open;
-        return node.clip == null ? open : open & node.clip.rowBits(y, node.x, node.y);
-    }
-
-    private long changedTiles() {
+    /** Mixes a row: bit k of the answer tells whether one of its pixels in tile k has changed. */
+    private long changedTiles(int y) {
+        mixRow(y);
         long tiles = 0;
-        for (int y = 0; y < HEIGHT; y++) {
-            mixRow(y);
-            for (int x = 0; x < WIDTH; x++) {
-                if (row[x] != canvas[y * WIDTH + x]) {
-                    tiles |= 1L << (y / TILE * TILES_ACROSS + x / TILE);
-                }
+        for (int x = 0; x < WIDTH; x++) {
+            if (row[x] != canvas[y * WIDTH + x]) {
+                tiles |= 1L << (y / TILE * TILES_ACROSS + x / TILE);
             }
         }
         return tiles;
@@ -533,7 +537,7 @@ public final class PaintLayers {
             return 0;
         }
         // Java takes a shift by 64 as one by 0, so that the end is reached by a shift to the right.
-        return -1L << first & -1L >>> (WIDTH - end);
+        return WHOLE_ROW << first & WHOLE_ROW >>> (WIDTH - end);
     }
 
     /** The pixels whose middles lie between two corners: no middle lies on a corner's line. */

@@ -1,73 +1,5 @@
 /** One test or more for each promise of the document: ordinary inputs, edges, and wrong inputs. */
-public final class PromiseTests {
-    private interface Call {
-        Object run();
-    }
-
-    private static final String INDEX = "IndexOutOfBoundsException";
-    private static final String ARGUMENT = "IllegalArgumentException";
-    private static final String STATE = "IllegalStateException";
-    private static final int LOW = Integer.MIN_VALUE;
-    private static final int HIGH = Integer.MAX_VALUE;
-
-    private static int wrong = 0;
-    private static int asked = 0;
-
-    private static Object answerOf(Call call) {
-        try {
-            return call.run();
-        } catch (RuntimeException e) {
-            return e.getClass().getSimpleName();
-        }
-    }
-
-    private static void due(String what, Object want, Call call) {
-        asked++;
-        Object got = answerOf(call);
-        if (!want.equals(got)) {
-            wrong++;
-            System.out.println(what + " answered " + got + ", due is " + want);
-        }
-    }
-
-    /** The call throws this, and changes nothing. */
-    private static void refused(PaintLayers p, String what, String exception, Call call) {
-        long before = p.digest();
-        due(what, exception, call);
-        due(what + " leaves the digest", before, () -> p.digest());
-    }
-
-    /** What node() tells of a node, joined. */
-    private static String told(PaintLayers p, int node) {
-        StringBuilder all = new StringBuilder();
-        for (int what = 0; what <= 12; what++) {
-            all.append(what == 0 ? "" : " ").append(p.node(node, what));
-        }
-        return all.toString();
-    }
-
-    private static String children(PaintLayers p, int group) {
-        StringBuilder all = new StringBuilder();
-        for (int i = 0; i < p.node(group, 3); i++) {
-            all.append(i == 0 ? "" : " ").append(p.child(group, i));
-        }
-        return all.toString();
-    }
-
-    private static String extents(PaintLayers p, int node) {
-        StringBuilder all = new StringBuilder();
-        for (int what = 0; what <= 4; what++) {
-            all.append(what == 0 ? "" : " ").append(p.extent(node, what));
-        }
-        return all.toString();
-    }
-
-    private static void fillUp(PaintLayers p) {
-        for (int i = p.node(0, 3) + 1; i < 40; i++) {
-            p.addGroup(0);
-        }
-    }
-
+public final class PromiseTests extends Asking {
     public static void main(String[] args) {
         newObject();
         addGroup();
@@ -94,10 +26,7 @@ public final class PromiseTests {
         painted();
         mean();
         digest();
-        System.out.println(asked + " answers, " + wrong + " of them not as due");
-        if (wrong != 0) {
-            System.exit(1);
-        }
+        end();
     }
 
     private static void newObject() {
