@@ -16,7 +16,7 @@ abstract class Asking {
     private static int wrong = 0;
     private static int asked = 0;
 
-    /** The answer, or the name of what was thrown; an exception that the machine or the library threw is told as such. */
+    /** The answer, or the name of what was thrown; what the machine or the library threw is told as such. */
     static Object answerOf(Call call) {
         try {
             return call.run();
